@@ -1,0 +1,54 @@
+/** Counts what is not as it is due, tells it, and ends the test with 1 if there was any. */
+final class Check {
+    private final String test;
+    private int many;
+    private int wrong;
+
+    Check(String test) {
+        this.test = test;
+    }
+
+    void is(String call, long got, long due) {
+        many++;
+        if (got != due) {
+            tell(call + " answered " + got + ", due is " + due);
+        }
+    }
+
+    void is(String call, boolean got, boolean due) {
+        is(call, got ? 1 : 0, due ? 1 : 0);
+    }
+
+    void is(String call, String got, String due) {
+        many++;
+        if (!got.equals(due)) {
+            tell(call + " answered " + got + ", due is " + due);
+        }
+    }
+
+    void refuses(String call, Class<?> due, Runnable run) {
+        many++;
+        try {
+            run.run();
+            tell(call + " threw nothing, due is " + due.getSimpleName());
+        } catch (RuntimeException e) {
+            if (e.getClass() != due) {
+                tell(call + " threw " + e + ", due is " + due.getSimpleName());
+            }
+        }
+    }
+
+    void tell(String what) {
+        wrong++;
+        if (wrong <= 40) {
+            System.out.println(test + ": " + what);
+        }
+    }
+
+    void end() {
+        System.out.println(test + ": " + many + " looked at, " + wrong + " wrong");
+        if (wrong != 0 || many == 0) {
+            System.exit(1);
+        }
+    }
+}
