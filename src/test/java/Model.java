@@ -284,6 +284,10 @@ final class Model {
         return draft.size();
     }
 
+    int drafted() {
+        return draft.size();
+    }
+
     int clear() {
         int many = draft.size();
         draft = new ArrayList<>();

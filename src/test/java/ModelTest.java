@@ -9,6 +9,7 @@ public final class ModelTest {
     private final Random random;
     private final int[] keys;
     private final int[] weights;
+    private final int style;
     private BlobHarbor program;
     private Model model;
     private String call;
@@ -26,6 +27,26 @@ public final class ModelTest {
         }
         weights[0] += 4;
         weights[2] += 4;
+        style = (int) (seed % 5);
+        lean(style);
+    }
+
+    /** Some runs lean to what fills a harbour: versions, numbers, parts; or to shards that are lost and mended. */
+    private void lean(int style) {
+        int[][] more = {{}, {2, 3, 24}, {2, 3, 21}, {2, 2}, {2, 6, 16, 17, 18, 26}};
+        if (style == 2) {
+            for (int kind = 0; kind < KINDS; kind++) {
+                weights[kind] = random.nextInt(3) / 2;
+            }
+            weights[2] = 60;
+        }
+        for (int kind : more[style]) {
+            weights[kind] += 12;
+        }
+        if (style > 0 && style < 4) {
+            weights[16] = 0;
+            weights[20] = 0;
+        }
     }
 
     public static void main(String[] args) {
@@ -42,7 +63,7 @@ public final class ModelTest {
         model = new Model();
         StringBuilder told = new StringBuilder();
         for (int i = 0; i < CALLS; i++) {
-            int[] a = arguments();
+            int[] a = i == 0 && style == 2 ? new int[] {20, 0, 0, 3} : arguments();
             String due = answer(true, a);
             String got = answer(false, a);
             told.append(call).append(" -> ").append(got).append('\n');
@@ -66,6 +87,10 @@ public final class ModelTest {
         int r = random.nextInt(40);
         if (r == 0) {
             return wild();
+        }
+        if (r > 20) {
+            int last = model.list(random.nextInt(2), 0, 0, random.nextInt(3));
+            return last == 0 ? keys[0] : last;
         }
         return r < 3 ? someKey() : keys[random.nextInt(keys.length)];
     }
@@ -120,11 +145,14 @@ public final class ModelTest {
 
     private int[] arguments() {
         int kind = kind();
+        if ((kind == 2 || kind == 9) && model.drafted() == 0 && random.nextInt(20) > 0) {
+            kind = 0;
+        }
         int r = region();
         int k = key();
         switch (kind) {
-            case 0: return new int[] {0, upTo(0, 15), upTo(0, 15), random.nextInt(4) == 0 ? upTo(1, 40) : upTo(1, 9)};
-            case 2: return new int[] {2, r, k, random.nextInt(3) > 0 ? -1 : number(r, k, true)};
+            case 0: return style == 2 ? new int[] {0, upTo(0, 3), 0, upTo(1, 3)} : new int[] {0, upTo(0, 15), upTo(0, 15), random.nextInt(4) == 0 || style == 3 ? upTo(1, 40) : upTo(1, 9)};
+            case 2: return new int[] {2, r, k, random.nextInt(style == 2 ? 30 : 3) > 0 ? -1 : number(r, k, true)};
             case 4: return new int[] {4, r, k, number(r, k, false)};
             case 5: return new int[] {5, r, k, number(r, k, false), random.nextInt(3) == 0 ? upTo(0, 999) : upTo(0, 30)};
             case 6: return new int[] {6, r, k, number(r, k, true), upTo(0, 12)};
