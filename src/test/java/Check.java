@@ -32,10 +32,18 @@ final class Check {
             run.run();
             tell(call + " threw nothing, due is " + due.getSimpleName());
         } catch (RuntimeException e) {
-            if (e.getClass() != due) {
-                tell(call + " threw " + e + ", due is " + due.getSimpleName());
+            if (e.getClass() != due || !isThrownByProgram(e)) {
+                tell(call + " threw " + e + ", due is " + due.getSimpleName() + ", thrown by the program itself");
             }
         }
+    }
+
+    /** An exception of the machine or of the library begins in another class, or has no written text. */
+    static boolean isThrownByProgram(RuntimeException e) {
+        StackTraceElement[] trace = e.getStackTrace();
+        return trace.length > 0 && trace[0].getClassName().startsWith("BlobHarbor")
+                && (e.getClass() == IndexOutOfBoundsException.class || e.getClass() == IllegalArgumentException.class
+                || e.getClass() == IllegalStateException.class);
     }
 
     void tell(String what) {

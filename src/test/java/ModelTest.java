@@ -180,7 +180,7 @@ public final class ModelTest {
             long got = a[0] < 14 ? first(ofModel, a) : second(ofModel, a);
             return Long.toString(got);
         } catch (RuntimeException e) {
-            return e.getClass().getName();
+            return e.getClass().getName() + (ofModel || Check.isThrownByProgram(e) ? "" : " not by the program");
         }
     }
 

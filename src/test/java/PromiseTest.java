@@ -1125,7 +1125,9 @@ public final class PromiseTest {
         put(x, 1, 1, 1, 2);
         check.is("the same bytes, another number", x.areAlike(), true);
         put(x, 1, 1, 1, 3);
-        check.is("other bytes", x.areAlike(), false);
+        check.is("another last byte", x.areAlike(), false);
+        put(x, 1, 1, 2, 2);
+        check.is("another first byte", x.areAlike(), false);
         put(x, 1, 1, 1);
         check.is("fewer bytes", x.areAlike(), false);
         x.delete(1, 1);
