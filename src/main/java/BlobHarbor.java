@@ -96,7 +96,7 @@ public final class BlobHarbor {
         Region in = regionOf(region);
         Version found = versionOf(in, key, version);
         checkState(!found.isLocked(day));
-        in.remove(found);
+        in.takeOut(found);
         return in.manyOf(key);
     }
 
@@ -679,8 +679,9 @@ public final class BlobHarbor {
         }
     }
 
-    /** Where the parts of bytes end; one row that is used again for all bytes. */
+    /** Where the parts of bytes begin and end; its rows are used again for all bytes. */
     private static final class Cut {
+        private final int[] starts = new int[MOST_BYTES];
         private final int[] ends = new int[MOST_BYTES];
         private int many;
 
@@ -689,7 +690,7 @@ public final class BlobHarbor {
             int start = 0;
             for (int end = 1; end <= bytes.many; end++) {
                 if (end == bytes.many || endsPart(bytes, start, end)) {
-                    addEnd(end);
+                    addPart(start, end);
                     start = end;
                 }
             }
@@ -703,8 +704,9 @@ public final class BlobHarbor {
             return length >= 2 && (3 * bytes.at(end - 2) + bytes.at(end - 1)) % 5 == 0;
         }
 
-        private void addEnd(int end) {
-            if (many >= 0 && many < ends.length) {
+        private void addPart(int start, int end) {
+            if (many >= 0 && many < starts.length && many < ends.length) {
+                starts[many] = start;
                 ends[many] = end;
                 many++;
             }
@@ -715,7 +717,7 @@ public final class BlobHarbor {
         }
 
         int startOf(int place) {
-            return place == 0 ? 0 : endOf(place - 1);
+            return place >= 0 && place < starts.length ? starts[place] : 0;
         }
     }
 
@@ -881,9 +883,10 @@ public final class BlobHarbor {
             return place >= 0 && place < coded.length ? coded[place] : 0;
         }
 
-        void encodePart(Part part) {
-            System.arraycopy(part.bytes, 0, plain, 0, PART_BYTES);
-            encodePlain();
+        void takePlain(Part part) {
+            for (int i = 0; i < plain.length && i < part.bytes.length; i++) {
+                plain[i] = part.bytes[i];
+            }
         }
 
         void encodePlain() {
@@ -987,25 +990,26 @@ public final class BlobHarbor {
             return parts.get(number);
         }
 
-        boolean hasRoom(Bytes bytes) {
-            int manyUp = 0;
+        int manyUp() {
+            int many = 0;
             for (int node = 0; node < NODES; node++) {
                 if (isUp(node)) {
-                    manyUp++;
+                    many++;
                 }
             }
-            return manyUp >= DATA_SHARDS && parts.size() + manyNew(bytes) <= MOST_PARTS;
+            return many;
         }
 
-        private int manyNew(Bytes bytes) {
+        // How many parts there would be ever with these bytes.
+        int manyEverWith(Bytes bytes) {
             cut.cut(bytes);
-            int fresh = 0;
+            int many = parts.size();
             for (int i = 0; i < cut.many; i++) {
                 if (find(bytes, cut.startOf(i), cut.endOf(i)) == null && isFirstInCut(bytes, i)) {
-                    fresh++;
+                    many++;
                 }
             }
-            return fresh;
+            return many;
         }
 
         private boolean isFirstInCut(Bytes bytes, int place) {
@@ -1044,27 +1048,30 @@ public final class BlobHarbor {
             cut.cut(bytes);
             int[] taken = new int[Math.max(cut.many, 0)];
             for (int i = 0; i < taken.length; i++) {
-                taken[i] = takePart(bytes, cut.startOf(i), cut.endOf(i));
+                Part part = findOrAdd(bytes, cut.startOf(i), cut.endOf(i));
+                if (!part.canBeRead()) {
+                    spread(part);
+                }
+                part.count++;
+                taken[i] = part.number;
             }
             return taken;
         }
 
-        private int takePart(Bytes bytes, int start, int end) {
+        // A part that is added has no shards yet.
+        private Part findOrAdd(Bytes bytes, int start, int end) {
             Part part = find(bytes, start, end);
             if (part == null) {
                 part = new Part(parts.size(), bytes, start, end);
                 parts.add(part);
             }
-            if (!part.canBeRead()) {
-                spread(part);
-            }
-            part.count++;
-            return part.number;
+            return part;
         }
 
         private void spread(Part part) {
             part.loseAll();
-            code.encodePart(part);
+            code.takePlain(part);
+            code.encodePlain();
             for (int shard = 0; shard < SHARDS; shard++) {
                 int node = freeNode(part);
                 if (node != NONE) {
@@ -1148,27 +1155,21 @@ public final class BlobHarbor {
         }
 
         boolean isAsPut(Version version) {
-            int start = 0;
+            int at = 0;
             for (int i = 0; i < version.parts.length; i++) {
                 Part part = partAt(version.parts[i]);
-                if (part == null || !isAsPut(part, version.entry.bytes, start)) {
+                if (part == null) {
                     return false;
                 }
-                start += part.many;
-            }
-            return start == version.entry.bytes.many;
-        }
-
-        private boolean isAsPut(Part part, Bytes bytes, int start) {
-            if (!code.decode(part)) {
-                return true;
-            }
-            for (int i = 0; i < part.many; i++) {
-                if (code.plainByte(i) != bytes.at(start + i)) {
-                    return false;
+                boolean isRead = code.decode(part);
+                for (int j = 0; j < part.many; j++) {
+                    if (isRead && code.plainByte(j) != version.entry.bytes.at(at)) {
+                        return false;
+                    }
+                    at++;
                 }
             }
-            return true;
+            return at == version.entry.bytes.many;
         }
 
         void beginTally() {
@@ -1248,8 +1249,12 @@ public final class BlobHarbor {
             return number >= 0 && number < had.length && had[number];
         }
 
+        // A mark, which has no bytes, needs neither nodes nor parts.
         boolean hasRoom(Bytes bytes) {
-            return versions.size() < MOST_VERSIONS && (bytes.many == 0 || store.hasRoom(bytes));
+            if (versions.size() >= MOST_VERSIONS || bytes.many == 0) {
+                return versions.size() < MOST_VERSIONS;
+            }
+            return store.manyUp() >= DATA_SHARDS && store.manyEverWith(bytes) <= MOST_PARTS;
         }
 
         void take(Entry entry) {
@@ -1263,7 +1268,7 @@ public final class BlobHarbor {
             }
         }
 
-        void remove(Version version) {
+        void takeOut(Version version) {
             for (int i = versions.size() - 1; i >= 0; i--) {
                 if (versions.get(i).entry.number == version.entry.number) {
                     store.letGo(version.parts);
@@ -1292,7 +1297,7 @@ public final class BlobHarbor {
             Version latest = latest(version.entry.key);
             boolean isLatest = latest != null && latest.entry.number == version.entry.number;
             if (!isLatest && !version.isLocked(day)) {
-                remove(version);
+                takeOut(version);
             }
         }
 
