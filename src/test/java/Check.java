@@ -1,11 +1,27 @@
 /** Counts what is not as it is due, tells it, and ends the test with 1 if there was any. */
 final class Check {
+    private static final long MOST_MILLISECONDS = 300_000;
+
     private final String test;
     private int many;
     private int wrong;
 
     Check(String test) {
         this.test = test;
+        Thread watch = new Thread(this::endLate);
+        watch.setDaemon(true);
+        watch.start();
+    }
+
+    /** A call that does not end is a fault, too, and must not hold up .ci/run. */
+    private void endLate() {
+        try {
+            Thread.sleep(MOST_MILLISECONDS);
+            System.out.println(test + ": it does not end");
+        } catch (InterruptedException e) {
+            System.out.println(test + ": " + e);
+        }
+        Runtime.getRuntime().halt(1);
     }
 
     void is(String call, long got, long due) {
@@ -51,6 +67,10 @@ final class Check {
         if (wrong <= 40) {
             System.out.println(test + ": " + what);
         }
+    }
+
+    int many() {
+        return many;
     }
 
     void end() {

@@ -5,16 +5,22 @@ import java.util.List;
 /**
  * What the document promises and no call can show while the program is right: how bytes are coded into shards,
  * and that agrees tells what is wrong. It looks at private fields, so it goes along with them when they change.
+ * How the state is held is free, so a program that holds it otherwise is not wrong: that is told, and no more.
  */
 public final class InsideTest {
     private final Check check = new Check("InsideTest");
 
-    public static void main(String[] args) throws ReflectiveOperationException {
+    public static void main(String[] args) {
         InsideTest test = new InsideTest();
-        test.field();
-        test.shards();
-        test.agreesTellsWrongBytes();
-        test.agreesTellsWrongCounts();
+        try {
+            test.field();
+            test.shards();
+            test.agreesTellsWrongBytes();
+            test.agreesTellsWrongCounts();
+        } catch (ReflectiveOperationException e) {
+            System.out.println("InsideTest: LOOKED AT NOTHING, the state is held otherwise, mend this test: " + e);
+            return;
+        }
         test.check.end();
     }
 

@@ -17,7 +17,6 @@ public final class PromiseTest {
         test.cuts();
         test.partsAreShared();
         test.full();
-        test.fullOfNumbers();
         test.delete();
         test.drop();
         test.lock();
@@ -48,7 +47,6 @@ public final class PromiseTest {
         test.areAlike();
         test.agrees();
         test.letter();
-        test.throwingChangesNothing();
         test.check.end();
     }
 
@@ -108,32 +106,6 @@ public final class PromiseTest {
             all.append(x.version(region, key, i)).append(' ');
         }
         return all.toString();
-    }
-
-    /** All that can be seen of some keys and of all parts, but for the draft. */
-    private static String look(BlobHarbor x) {
-        StringBuilder all = new StringBuilder();
-        for (int region = 0; region < 2; region++) {
-            for (int key : new int[] {1, 2, 6, 7, 31}) {
-                for (int i = 0; x.version(region, key, i) != 0; i++) {
-                    int version = x.version(region, key, i);
-                    all.append(key).append(':').append(version).append('=').append(read(x, region, key, version));
-                    for (int what = 0; what < 6; what++) {
-                        all.append(',').append(x.about(region, key, version, what));
-                    }
-                    all.append(';').append(parts(x, region, key, version));
-                }
-            }
-            for (int part = 0; part < 90; part++) {
-                try {
-                    all.append(x.partIs(region, part, 0)).append(x.partIs(region, part, 2)).append(nodes(x, region, part));
-                } catch (IndexOutOfBoundsException e) {
-                    all.append('-');
-                }
-            }
-            all.append(x.behind(region)).append(x.agrees(region));
-        }
-        return all.append(x.cost(0)).append(' ').append(x.cost(1)).append(' ').append(x.cost(2)).toString();
     }
 
     // ---- the promises
@@ -312,25 +284,6 @@ public final class PromiseTest {
             }
         }
         return left < 16 ? new int[] {1, 1, left} : new int[] {1, 0, left - 16};
-    }
-
-    private void fullOfNumbers() {
-        BlobHarbor x = new BlobHarbor();
-        for (int i = 1; i <= 199; i++) {
-            put(x, i % 2, 1, 3);
-            x.drop(i % 2, 1, i);
-        }
-        check.is("the 200th", put(x, 0, 1, 3), 200);
-        bytes(x, 3);
-        check.refuses("put of the 201st", STATE, () -> x.put(0, 1, -1));
-        check.refuses("put of the 201st", STATE, () -> x.put(1, 1, -1));
-        check.is("put, the condition not holding", x.put(0, 1, 0), 0);
-        check.refuses("delete of the 201st", STATE, () -> x.delete(0, 1));
-        check.is("delete of none", x.delete(1, 1), 0);
-        x.upload(0, 1);
-        x.piece(0, 1);
-        check.refuses("finish of the 201st", STATE, () -> x.finish(0, false));
-        check.is("finish", x.finish(0, true), 0);
     }
 
     private void delete() {
@@ -1191,43 +1144,5 @@ public final class PromiseTest {
             check.refuses("letter of the key " + key, ARGUMENT, () -> x.letter(key, 0));
             check.refuses("letter of the key " + key, ARGUMENT, () -> x.letter(key, -1));
         }
-    }
-
-    private void throwingChangesNothing() {
-        BlobHarbor x = new BlobHarbor();
-        put(x, 0, 1, 1, 2, 3, 4);
-        put(x, 1, 6, 1, 2);
-        x.delete(0, 1);
-        put(x, 0, 2, 7, 7, 7);
-        x.lock(0, 2, 4, 9);
-        x.rule(0, 5, 1);
-        x.upload(0, 7);
-        bytes(x, 4, 4);
-        x.piece(0, 2);
-        for (int node = 0; node < 4; node++) {
-            x.node(0, node, false);
-        }
-        bytes(x, 5, 5, 5);
-        String before = look(x);
-        check.refuses("draft", STATE, () -> x.draft(1, 1, 38));
-        check.refuses("put", STATE, () -> x.put(0, 31, -1));
-        check.refuses("drop", STATE, () -> x.drop(0, 2, 4));
-        check.refuses("lock", STATE, () -> x.lock(0, 2, 4, 8));
-        check.refuses("ask", STATE, () -> x.ask(0, 2, 4));
-        check.refuses("piece", ARGUMENT, () -> x.piece(0, 10));
-        check.refuses("finish", STATE, () -> x.finish(0, false));
-        check.refuses("node", STATE, () -> x.node(0, 0, false));
-        check.refuses("rot", ARGUMENT, () -> x.rot(0, 0, 5));
-        check.refuses("mend", ARGUMENT, () -> x.mend(0, 100));
-        check.refuses("sweep", ARGUMENT, () -> x.sweep(0, 0));
-        check.refuses("rule", ARGUMENT, () -> x.rule(0, 0, 4));
-        check.refuses("pass", ARGUMENT, () -> x.pass(31));
-        check.refuses("follow", ARGUMENT, () -> x.follow(0, 0));
-        check.is("all that can be seen", look(x), before);
-        check.is("the draft", x.piece(0, 1), 5);
-        check.is("the rules", x.rule(0, 99, 1), 2);
-        x.node(0, 0, true);
-        check.is("the upload", x.finish(0, false), 5);
-        check.is("its bytes", read(x, 0, 7, 0), "5 5 5 4 4 -1");
     }
 }
